@@ -1079,15 +1079,15 @@ public final class HallGlass {
         }
 
         int weatherOn(int d) {
-            return has(d) ? weathers[d] : 0;
+            return d >= 0 && d < size ? weathers[d] : 0;
         }
 
         int airOn(int d) {
-            return has(d) ? airs[d] : 0;
+            return d >= 0 && d < size ? airs[d] : 0;
         }
 
         int skyOn(int d) {
-            return has(d) ? skies[d] : 0;
+            return d >= 0 && d < size ? skies[d] : 0;
         }
 
         int known(int k) {
@@ -1276,11 +1276,12 @@ public final class HallGlass {
         }
 
         int fallOn(int d) {
-            return d > 0 ? readingOn(d - 1) - readingOn(d) : 0;
+            return d > 0 && d < MOST_DAYS ? readings[d - 1] - readings[d] : 0;
         }
 
+        /** The WORD that there would be, if all MARKS were shifted. */
         int wordOn(int d, int shift) {
-            int reading = readingOn(d);
+            int reading = d >= 0 && d < MOST_DAYS ? readings[d] : 0;
             int word = 0;
             for (int i = 0; i < markCount; i++) {
                 if (marks[i] + shift <= reading) {
@@ -1504,14 +1505,16 @@ public final class HallGlass {
         int valueOn(Days at, int d) {
             int top = 0;
             for (int i = 0; i < code.length; i++) {
-                int strength = strength(code[i] - FIRST_SIGN);
+                int sign = code[i] - FIRST_SIGN;
+                int strength = strength(sign);
+                // a thing takes nothing from the stack, ! and - ahead of one take it, links take two
                 int takes = strength == 0 ? 0 : strength > STRONGEST_LINK ? 1 : 2;
                 top -= takes;
                 if (top < 0 || top >= stack.length) {
                     return 0;
                 }
                 int right = takes == 2 && top + 1 < stack.length ? stack[top + 1] : 0;
-                stack[top] = takes == 0 ? thing(code[i], at, d) : joined(code[i] - FIRST_SIGN, stack[top], right);
+                stack[top] = takes == 0 ? thing(code[i], at, d) : joined(sign, stack[top], right);
                 top++;
             }
             return top > 0 ? stack[top - 1] : 0;
@@ -1923,6 +1926,7 @@ public final class HallGlass {
     /** THE ROW; of a longer list it keeps the first numbers. */
     private static final class Row {
         private static final int MOST_NUMBERS = 20;
+        private static final int MOST_STEPS = 1000;
 
         private final long[] numbers = new long[MOST_NUMBERS];
         private int size;
@@ -1939,17 +1943,23 @@ public final class HallGlass {
         }
 
         void addFraction(long upper, long lower) {
-            long divisor = upper;
-            long rest = lower;
-            while (rest != 0) {
-                long next = divisor % rest;
-                divisor = rest;
-                rest = next;
-            }
+            long divisor = commonDivisor(upper, lower);
             if (divisor != 0) {
                 add(upper / divisor);
                 add(lower / divisor);
             }
+        }
+
+        /** The greatest common divisor; of two longs it is found in less than MOST_STEPS. */
+        private static long commonDivisor(long a, long b) {
+            long divisor = a;
+            long rest = b;
+            for (int i = 0; i < MOST_STEPS && rest != 0; i++) {
+                long next = divisor % rest;
+                divisor = rest;
+                rest = next;
+            }
+            return divisor;
         }
 
         int size() {
