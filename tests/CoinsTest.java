@@ -162,10 +162,14 @@ public final class CoinsTest {
         Due.is("truly(0, 8, 2, 1): unseen", x, x.truly(0, 8, 2, 1), 0, 13, 13);
         Due.is("truly(0, 16, 2, 2): an odd half", x, x.truly(0, 16, 2, 2), 3, 14, 11);
         Due.is("saved behind truly", x, x.saved(0, 3, 2, 1), 9, 18, 4);
+        Due.omen(x, 0, "d=0");
+        Due.is("truly(0, 32, 2, 1)", x, x.truly(0, 32, 2, 1), 3, 13, 10);
+        Due.is("saved behind truly, by the same", x, x.saved(0, 32, 2, 1), 3, 24, 2);
+        Due.is("truly(0, 32, 2, 1) again", x, x.truly(0, 32, 2, 1), 3, 13, 10);
         Due.is("truly without KNOWN DAYS", x, x.truly(0, 16, 2, 9), 0, 0, 0);
         Due.is("truly of one KNOWN DAY", x, x.truly(0, 16, 2, 8), 0, 10, 10);
         Due.none("truly(0, 0, 2, 1)", () -> x.truly(0, 0, 2, 1));
-        Due.none("truly(0, 32, 2, 1)", () -> x.truly(0, 32, 2, 1));
+        Due.none("truly(0, 64, 2, 1)", () -> x.truly(0, 64, 2, 1));
         Due.none("truly(0, -1, 2, 1)", () -> x.truly(0, -1, 2, 1));
         Due.none("truly(1, 1, 2, 1)", () -> x.truly(1, 1, 2, 1));
         Due.none("truly(-1, 1, 2, 1)", () -> x.truly(-1, 1, 2, 1));

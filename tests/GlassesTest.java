@@ -8,6 +8,7 @@ public final class GlassesTest {
         differ();
         right();
         rightAtTheEdges();
+        justAtTheMark();
         whose();
         Due.end();
     }
@@ -66,6 +67,7 @@ public final class GlassesTest {
         Due.is("mark(0, -999)", x.mark(0, -999), 1);
         Due.is("mark(0, 999)", x.mark(0, 999), 2);
         Due.is("mark(0, 999) again", x.mark(0, 999), -1);
+        Due.is("mark(0, -999) again", x.mark(0, -999), -1);
         Due.is("mark(0, 0)", x.mark(0, 0), 3);
         Due.is("mark(0, 0) again", x.mark(0, 0), -1);
         for (int i = 4; i <= 8; i++) {
@@ -124,6 +126,11 @@ public final class GlassesTest {
         Due.is("differ(-1, 0)", x, x.differ(-1, 0), -1, first);
         Due.is("differ(0, 2)", x, x.differ(0, 2), -1, first);
         Due.is("differ(2, 0)", x, x.differ(2, 0), -1, first);
+        x.keep(0);
+        x.day(0, 700, 0);
+        Due.is("differ(0, 1) with a DAY more", x, x.differ(0, 1), 29, first);
+        x.again(0);
+        Due.is("differ(0, 1) without it again", x, x.differ(0, 1), 28, first);
         x.mark(1, 500);
         Due.is("differ of the same MARKS", x, x.differ(0, 1), 0);
     }
@@ -165,6 +172,27 @@ public final class GlassesTest {
             Due.airs(x, 500);
             Due.is("right(0, 1) of a MARK at " + marks[i], x, x.right(0, 1), alike[i], shift[i]);
         }
+    }
+
+    /** A MARK just at what is SHOWN is not above it, in the WORD of each glass alike. */
+    private static void justAtTheMark() {
+        HallGlass x = new HallGlass();
+        Due.airs(x, 500);
+        x.glass(0, 0, 0);
+        x.glass(0, 0, 0);
+        x.glass(0, 0, 0);
+        x.mark(0, 500);
+        x.mark(1, 500);
+        x.mark(2, 501);
+        Due.is("right(0, 1)", x, x.right(0, 1), 1, 0);
+        Due.is("right(1, 2)", x, x.right(1, 2), 1, 1);
+        Due.is("right(2, 1)", x, x.right(2, 1), 1, -1);
+        Due.is("whose(0, 1, 2)", x, x.whose(0, 1, 2), 2, 1);
+        Due.is("whose(2, 0, 1)", x, x.whose(2, 0, 1), 2, 1);
+        x.glass(1, 0, 0);
+        x.mark(3, 499);
+        Due.is("whose(2, 0, 3)", x, x.whose(2, 0, 3), 2, 1);
+        Due.is("whose(3, 2, 0)", x, x.whose(3, 2, 0), 2, 1);
     }
 
     /** The WORDS turn to 1 at AIR 450, 510, 550, 450: on a DAY of 520 they are 1, 1, 0, 1, on one of 505 1, 0, 0, 1. */

@@ -29,6 +29,9 @@ public final class HayTest {
         Due.is("mow(0, 3)", x, x.mow(0, 3), 1, 1, 0);
         Due.is("mow(0, 6)", x, x.mow(0, 6), 0, 2, 0);
         Due.is("mow(2, 6)", x, x.mow(2, 6), 0, 0, 5);
+        Due.omen(x, 0, "w");
+        x.mark(0, 500);
+        Due.is("mow by a glass", x, x.mow(4, 2), 2, 1, 0);
         HallGlass y = new HallGlass();
         Due.days(y, "000000", "000000");
         y.glass(0, 0, 0);

@@ -6,6 +6,7 @@ public final class SignsTest {
         omenStands();
         omenWrong();
         omenLong();
+        omenAfterOmen();
         omenRefused();
         value();
         letters();
@@ -79,6 +80,8 @@ public final class SignsTest {
         checkWrong("ww", 1);
         checkWrong("w1", 1);
         checkWrong("1w", 1);
+        checkWrong("1+w2", 3);
+        checkWrong("1+(2)3", 5);
         checkWrong("1234", 3);
         checkWrong("0000", 3);
         checkWrong("1+1234", 5);
@@ -147,6 +150,24 @@ public final class SignsTest {
         checkWrong("!".repeat(60), 40);
         checkWrong("!".repeat(40), 40);
         checkWrong("x" + "1".repeat(59), 0);
+    }
+
+    /** What was read of an earlier text leaves nothing behind. */
+    private static void omenAfterOmen() {
+        HallGlass x = Due.week();
+        String[] wrong = {"((1", "((((((1", "1+2+(", "1<2<3", "(1<(2=", "12+", "!".repeat(40), "((((("};
+        for (String text : wrong) {
+            Due.omen(x, 0, text);
+        }
+        Due.is("a right one behind wrong ones", Due.omen(x, 0, "(((((1<2)))))=(1|0)"), 0);
+        Due.is("its value", x.value(0, 0), 1);
+        Due.is("40 signs behind others", Due.omen(x, 0, "!".repeat(39) + "0"), 1);
+        Due.is("its value", x.value(1, 0), 1);
+        Due.is("again", Due.omen(x, 0, "-".repeat(38) + "17"), 2);
+        Due.is("its value", x.value(2, 0), 17);
+        Due.is("a short one", Due.omen(x, 0, "5"), 3);
+        Due.is("its value", x.value(3, 0), 5);
+        Due.is("the first one's", x.value(0, 0), 1);
     }
 
     private static void omenRefused() {
@@ -316,6 +337,7 @@ public final class SignsTest {
         Due.is("fails(0, 2, 1)", x, x.fails(0, 2, 1), 3, 1, 4, 6);
         Due.is("fails(1, 2, 1)", x, x.fails(1, 2, 1), 2, 2, 5);
         Due.is("fails(3, 2, 1)", x, x.fails(3, 2, 1), 0);
+        Due.is("fails(0, 3, 1): on DAY 0, too", x, x.fails(0, 3, 1), 4, 0, 1, 4, 6);
         Due.is("fails(0, 2, 2)", x, x.fails(0, 2, 2), 2, 1, 4);
         Due.is("fails(5, 2, 1)", x, x.fails(5, 2, 1), -1, 1, 4);
         Due.is("fails(-1, 2, 1)", x, x.fails(-1, 2, 1), -1, 1, 4);
@@ -354,6 +376,12 @@ public final class SignsTest {
             x.mark(1, v);
         }
         Due.is("beast with WORDS 8 and 7", x, x.beast(1, 1, 2), 256, 1, 3, 2, 2);
+        HallGlass y = new HallGlass();
+        Due.days(y, "020130012", "110010101");
+        y.glass(0, 0, 0);
+        y.mark(0, 500);
+        Due.omen(y, 0, "d=0");
+        Due.is("beast of a MARK just at SHOWN", y.beast(0, 0, 2), 2);
         Due.is("beast(3, 1, 2)", x.beast(3, 1, 2), -1);
         Due.is("beast(-1, 1, 2)", x.beast(-1, 1, 2), -1);
         Due.is("beast(0, 2, 2)", x.beast(0, 2, 2), -1);

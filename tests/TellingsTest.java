@@ -38,6 +38,12 @@ public final class TellingsTest {
         Due.is("judge(2, 1)", x, x.judge(2, 1), 0, 10 + 20 + 60 + 9, 200, 100);
         Due.is("judge(3, 0)", x, x.judge(3, 0), 0, 8100 + 400 + 3600 + 81 + 10000, 8000, 20);
         Due.is("judge(3, 1)", x, x.judge(3, 1), 0, 90 + 20 + 60 + 9 + 100, 100, 0);
+        Due.is("judge(1, 1)", x, x.judge(1, 1), 0, 10 + 20 + 60 + 9, 200, 100);
+        x.telling(2, 70);
+        Due.is("judge(2, 1): what comes two DAYS behind", x, x.judge(2, 1), 0, 169, 300, 0);
+        x.telling(2, 0);
+        Due.is("judge(2, 1): told again", x, x.judge(2, 1), 0, 99, 300, 0);
+        x = weekWithTellings();
         x.telling(5, 30);
         Due.is("judge(2, 1) of equal ones", x, x.judge(2, 1), 0, 129, 300, 0);
         Due.is("judge(2, 0) with a DAY more", x, x.judge(2, 0), 0, 5081, 15000, 50);

@@ -47,6 +47,9 @@ public final class ValleyTest {
         Due.is("elsewhere(0, 3, 1)", x, x.elsewhere(0, 3, 1), 1, 1, 3, 0, 0, 0, 4);
         Due.is("elsewhere(0, 2, 2)", x, x.elsewhere(0, 2, 2), 1, 1, 0, 0, 0, 0, 1);
         Due.is("elsewhere(0, 2, 3)", x, x.elsewhere(0, 2, 3), 0, 0, 0, 0, 0, -2, 0);
+        Due.omen(x, 0, "p=500&w=1");
+        x.mark(0, 500);
+        Due.is("elsewhere by a glass", x, x.elsewhere(4, 2, 1), 2, 2, 2, 0, 0, 0, 4);
         Due.is("elsewhere without KNOWN DAYS", x, x.elsewhere(0, 2, 9), 0, 0, 0, 0, 0, -2, 0);
         x.day(0, 500, 1);
         Due.is("elsewhere with a DAY more", x, x.elsewhere(0, 2, 1), 3, 3, 2, 0, 0, 0, 5);
@@ -75,7 +78,7 @@ public final class ValleyTest {
         x.step(0, 9);
         x.weight(0, 0, 4);
         x.weight(3, 3, 3);
-        x.person(2, 9, 1);
+        x.person(4, 9, 0);
         Due.omen(x, 0, "f>5&w<2");
         Due.omen(x, 1, "t>1|k=3");
         Due.omen(x, 1, "d<9");
@@ -83,7 +86,8 @@ public final class ValleyTest {
 
     /** What worlds() tells is what DAYS tell that are made by run() from none on. */
     private static void worlds() {
-        int[][] runs = {{3, 40, 12, 2, 1}, {7, 60, 5, 1, 2}, {1, 17, 1, 3, 1}, {2, 60, 12, 2, 1}, {4, 1, 3, 1, 1}};
+        int[][] runs = {{3, 40, 12, 2, 1}, {7, 60, 5, 1, 2}, {1, 17, 1, 3, 1}, {2, 60, 12, 2, 1}, {6, 50, 7, 2, 1},
+            {5, 20, 12, 2, 2}, {4, 1, 3, 1, 1}};
         for (int[] a : runs) {
             int r = a[0] * 7919;
             long above = 0;
