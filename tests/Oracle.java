@@ -1182,7 +1182,6 @@ public final class Oracle {
                 fit.add(s);
             }
         }
-        tell();
         if (!fit.isEmpty()) {
             tell(fit.get(0), fit.get(fit.size() - 1));
         }

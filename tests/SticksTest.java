@@ -4,6 +4,7 @@ public final class SticksTest {
         see();
         sticks();
         sticksAtTheEdges();
+        noneLeavesTheRow();
         Due.end();
     }
 
@@ -39,9 +40,9 @@ public final class SticksTest {
         x.see(92, 92);
         Due.is("sticks: it went over 11", x, x.sticks(), 1, 10, 10);
         x.see(92, 103);
-        Due.is("sticks: none", x, x.sticks(), 0);
+        Due.is("sticks: none, the ROW stays", x, x.sticks(), 0, 10, 10);
         x.see(103, 103);
-        Due.is("sticks: none at last", x, x.sticks(), 0);
+        Due.is("sticks: none at last, the ROW stays", x, x.sticks(), 0, 10, 10);
     }
 
     private static void sticksAtTheEdges() {
@@ -65,5 +66,19 @@ public final class SticksTest {
         x.see(0, -999);
         x.see(1999, 1999);
         Due.is("it went as far as can be", x, x.sticks(), 41, 0, 40);
+    }
+
+    /** With 0 there is neither a least nor a greatest: the ROW is that of the call before, whichever it was. */
+    private static void noneLeavesTheRow() {
+        HallGlass x = new HallGlass();
+        x.see(0, 0);
+        x.see(1, 0);
+        Due.is("none, where no ROW was told yet", x, x.sticks(), 0);
+        x.hedge(70, 1);
+        Due.is("none behind hedge()", x, x.sticks(), 0, 3000, 4200);
+        x.table(0, 0, 0);
+        Due.is("none behind a refused call", x, x.sticks(), 0, 3000, 4200);
+        x.fields(1);
+        Due.is("none behind an empty ROW", x, x.sticks(), 0);
     }
 }

@@ -780,11 +780,13 @@ public final class HallGlass {
                 fit++;
             }
         }
-        row.clear();
-        if (fit > 0) {
-            row.add(least);
-            row.add(greatest);
+        if (fit == 0) {
+            // there is neither a least nor a greatest, so no ROW is told and the one told last stays
+            return 0;
         }
+        row.clear();
+        row.add(least);
+        row.add(greatest);
         return fit;
     }
 
