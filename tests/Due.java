@@ -4,15 +4,29 @@ import java.util.NoSuchElementException;
 final class Due {
     private static int wrong;
     private static int asked;
+    private static String under = "";
 
     private Due() {
+    }
+
+    /** What is told ahead of all that is found wrong from now on. */
+    static void under(String where) {
+        under = where;
     }
 
     static void is(String what, long got, long want) {
         asked++;
         if (got != want) {
             wrong++;
-            System.out.println(what + " answered " + got + ", due is " + want);
+            System.out.println(under + what + " answered " + got + ", due is " + want);
+        }
+    }
+
+    static void same(String what, Object got, Object want) {
+        asked++;
+        if (!got.equals(want)) {
+            wrong++;
+            System.out.println(under + what + " answered " + got + ", due is " + want);
         }
     }
 
@@ -44,11 +58,11 @@ final class Due {
             return;
         } catch (RuntimeException e) {
             wrong++;
-            System.out.println(what + " threw " + e + ", due is NoSuchElementException");
+            System.out.println(under + what + " threw " + e + ", due is NoSuchElementException");
             return;
         }
         wrong++;
-        System.out.println(what + " threw nothing, due is NoSuchElementException");
+        System.out.println(under + what + " threw nothing, due is NoSuchElementException");
     }
 
     /** DAYS more, of weathers and skies told as digits, all of one AIR. */
