@@ -217,6 +217,12 @@ public final class BoundsGlassesTest {
             x.mark(0, 540);
             x.mark(1, 1);
             Due.is("of all MARKS", x, x.right(0, 1), 1, -40);
+            x = oneMarkEach(500, 500);
+            Due.is("both just there", x, x.right(0, 1), 1, 0);
+            x = oneMarkEach(500, 501);
+            Due.is("the other one's one above", x, x.right(0, 1), 1, 1);
+            x = oneMarkEach(501, 500);
+            Due.is("the other one's just there", x, x.right(0, 1), 1, -1);
             HallGlass y = new HallGlass();
             y.glass(0, 0, 0);
             y.glass(0, 0, 0);
@@ -285,6 +291,14 @@ public final class BoundsGlassesTest {
             Due.is("whose(2, 0, 1)", x, x.whose(2, 0, 1), 1, 2);
             Due.is("whose(3, 2, 1)", x, x.whose(3, 2, 1), 1, 3);
             Due.is("whose(0, 3, 2)", x, x.whose(0, 3, 2), 0, 1);
+            for (int[] told : new int[][] {{0, 1, 2}, {1, 2, 0}, {2, 0, 1}}) {
+                HallGlass z = glasses(501, 500, 500);
+                Due.airs(z, 500);
+                Due.is("one MARK one above, two just there", z, z.whose(told[0], told[1], told[2]), 0, 1);
+                z = glasses(500, 501, 501);
+                Due.airs(z, 500);
+                Due.is("one MARK just there, two one above", z, z.whose(told[0], told[1], told[2]), 0, 1);
+            }
             HallGlass y = new HallGlass();
             for (int g = 0; g < 3; g++) {
                 y.glass(0, 0, 0);

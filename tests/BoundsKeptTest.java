@@ -191,15 +191,21 @@ public final class BoundsKeptTest {
         });
     }
 
-    /** How many numbers each call tells, at least and at most. */
+    /** How many numbers each call tells; of a longer ROW told ahead nothing is left. */
     private static void rowLengths() {
         HallGlass x = Twin.rich();
+        for (int d = 0; d < 50; d++) {
+            x.day(0, 500, 0);
+        }
+        Due.omen(x, 0, "0");
         Object[][] calls = {{1, "right", 0, 1}, {1, "whose", 0, 1, 2}, {4, "table", 0, 2, 1}, {4, "says", 0, 2, 1}, {2, "lot", 0, 2, 1},
             {2, "line", 0}, {1, "blind", 0, 2, 1}, {2, "saved", 0, 1, 2, 1}, {1, "few", 0, 1, 0, 2, 1}, {2, "truly", 0, 1, 2, 1},
             {2, "level", 0, 0, 0, 2, 1}, {3, "remember", 0, 0, 1, 2}, {3, "drum", 0, 2, 1, 1}, {2, "mow", 0, 1},
-            {3, "village", 0, 0, 1, 2}, {6, "elsewhere", 0, 2, 1}, {2, "worlds", 0, 1, 9, 2, 1, 1}, {3, "judge", 2, 0},
-            {2, "hedge", 70, 0}, {1, "told", 5, 1}, {2, "sticks"}};
+            {3, "village", 0, 0, 1, 2}, {6, "elsewhere", 0, 2, 1}, {2, "worlds", 0, 1, 9, 2, 1, 1}, {3, "judge", 2, 0}, {0, "differ", 0, 0}, {0, "fails", 3, 1, 1},
+            {7, "fields", 6}, {2, "hedge", 70, 0}, {1, "told", 5, 1}, {2, "sticks"}};
         for (Object[] call : calls) {
+            x.fields(1);
+            Due.is("the ROW of fields()", x.count(6), 20);
             Twin.answer(x, (String) call[1], java.util.Arrays.copyOfRange(call, 2, call.length));
             Due.is("numbers told by " + call[1], x.count(6), (int) call[0]);
         }

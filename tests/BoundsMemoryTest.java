@@ -41,6 +41,10 @@ public final class BoundsMemoryTest {
             Due.is("it STANDS never", x, x.remember(0, 1, 1, 1), 20, 0, 0, 2);
             x.day(1, 500, 0);
             Due.is("a DAY more is KNOWN", x, x.remember(0, 0, 1, 1), 24, 1, 0, 2);
+            Due.omen(x, 0, "d=0|d=1");
+            Due.is("the SIGN that is told", x, x.remember(0, 2, 1, 1), 33, 1, 1, 3);
+            x.start(0, 200);
+            Due.is("from DAY 0 on, whenever it began to look", x, x.remember(0, 2, 1, 1), 33, 1, 1, 3);
             Due.is("without DAYS", days("", "1").remember(0, 0, 1, 1), 0);
             Due.is("of one DAY", days("3", "1").remember(0, 0, 1, 1), 0);
             HallGlass y = days("3".repeat(240), "1");
@@ -109,8 +113,9 @@ public final class BoundsMemoryTest {
 
     private static void drum() {
         Words.test(34, "A drum is hoisted on each KNOWN DAY (k 1) on which a SIGN STANDS;", () -> {
-            HallGlass x = days("0101", "1", "d=3", "0");
+            HallGlass x = days("0101", "1", "d=3", "0", "d=1|d=2");
             Due.is("on all three", x, x.drum(0, 1, 20, 0), -2, 3, 1, 0);
+            Due.is("on two of them", x, x.drum(3, 1, 20, 0), -2, 2, 1, 0);
             Due.is("not on the last DAY", x, x.drum(1, 1, 20, 0), -2, 0, 0, 0);
             Due.is("never", x, x.drum(2, 1, 1, 1), -2, 0, 0, 0);
             HallGlass y = days("", "1");
@@ -228,6 +233,14 @@ public final class BoundsMemoryTest {
             Due.is("on DAY 3", x, x.mow(1, 2), 1, 0, 3);
             Due.is("on DAY 5: too late", x, x.mow(2, 2), 0, 0, 5);
             Due.is("never", x, x.mow(3, 2), 0, 0, 5);
+            x.mark(0, 499);
+            Due.omen(x, 0, "w&d=2");
+            Due.is("by a GLASS, with a MARK just told", x, x.mow(4, 2), 1, 0, 2);
+            x.day(0, 498, 0);
+            x.day(0, 500, 0);
+            x.day(0, 500, 0);
+            Due.omen(x, 0, "!w");
+            Due.is("by a GLASS, on a DAY just told", x, x.mow(5, 2), 1, 0, 7);
         });
         Words.test(36, "if the h DAYS next (1 .. 6) are all of WEATHER 0, a field is in, and one goes on behind these;", () -> {
             for (int h = 1; h <= 6; h++) {
@@ -415,6 +428,13 @@ public final class BoundsMemoryTest {
             x.listen(0, 0);
             x.start(0, 239);
             Due.is("nobody has seen it", x, x.village(0, 0, 20, 1), 10, 0, 0, 1);
+            HallGlass z = three("010000");
+            z.start(0, 239);
+            z.start(2, 1);
+            Due.is("PERSON 1 by its own times", z, z.village(1, 0, 20, 1), 16, 2, 2, 1);
+            Due.is("PERSON 2 by its own times", z, z.village(2, 0, 20, 1), 10, 0, 0, 1);
+            z.listen(2, 2);
+            Due.is("PERSON 2 by its own and another's", z, z.village(2, 0, 20, 1), 13, 1, 1, 1);
             HallGlass y = three("01" + "0".repeat(30));
             y.listen(0, 6);
             Due.is("m 1 of three alike", y, y.village(0, 0, 1, 1), 13, 1, 1, 1);
@@ -461,6 +481,12 @@ public final class BoundsMemoryTest {
             Due.is("on its own, on 3", z.first(0, 0, 20, 1), 3);
             z.listen(0, 2);
             Due.is("with another", z.first(0, 0, 20, 1), 1);
+            z.start(2, 2);
+            Due.is("PERSON 2, on its own", z.first(2, 0, 20, 1), 3);
+            z.start(1, 239);
+            Due.is("PERSON 1, on its own", z.first(1, 0, 20, 1), -2);
+            z.listen(1, 4);
+            Due.is("PERSON 1, with PERSON 2", z.first(1, 0, 20, 1), 3);
             HallGlass w = three("0".repeat(238) + "10");
             Due.is("the last KNOWN DAY", w.first(0, 0, 1, 1), 238);
         });

@@ -131,6 +131,18 @@ public final class BoundsSignsTest {
             for (int i = 0; i < 10; i++) {
                 Due.is("value of " + i, x.value(i, 8), 500 - i % 2 * 100 + i);
             }
+            // what was read of a wrong TEXT leaves nothing behind
+            String[] wrong = {"(((((1", "(1+(2<", "7-7-7*", "!!!!(", "1234", "1<2<", "12x"};
+            for (String text : wrong) {
+                HallGlass y = week();
+                Due.omen(y, 0, text);
+                Due.is("a right one behind " + text, Due.omen(y, 0, "(((((1<2)))))+12"), 0);
+                Due.is("its value", y.value(0, 0), 13);
+                Due.omen(y, 0, text);
+                Due.is("a short one behind " + text, Due.omen(y, 0, "3-2"), 1);
+                Due.is("its value", y.value(1, 0), 1);
+                Due.is("the first one's", y.value(0, 0), 13);
+            }
         });
     }
 
@@ -159,6 +171,8 @@ public final class BoundsSignsTest {
             wrong("7x", 1);
             wrong("!".repeat(39) + ")", 39);
             wrong("!".repeat(38) + "7x", 39);
+            wrong("1+w2", 3);
+            wrong("(1)2", 3);
             stands("!".repeat(38) + "77");
             HallGlass x = Twin.rich();
             HallGlass y = Twin.rich();
@@ -203,6 +217,7 @@ public final class BoundsSignsTest {
             for (int glass : new int[] {-1, 3, Integer.MIN_VALUE, Integer.MAX_VALUE}) {
                 HallGlass y = Twin.rich();
                 Due.is("omen(" + glass + ")", y.omen(glass), -100);
+                Due.is("THE TEXT is empty", y.count(7), 0);
                 HallGlass z = Twin.rich();
                 y.end(0);
                 z.end(0);
@@ -388,8 +403,9 @@ public final class BoundsSignsTest {
 
     private static void fails() {
         Words.test(23, "A saying: behind a SIGN the EVENT always comes: on how many KNOWN DAYS it did not, though the SIGN STOOD;", () -> {
-            HallGlass x = week("k=1", "d=0|d=3", "d=8", "0");
+            HallGlass x = week("k=1", "d=0|d=3", "d=8", "0", "d=1|d=2");
             Due.is("three", x.fails(0, 2, 1), 3);
+            Due.is("of the SIGN that is told", x, x.fails(4, 2, 1), 2, 1, 2);
             Due.is("k 2: two", x.fails(0, 2, 2), 2);
             Due.is("it always came", x.fails(1, 2, 1), 0);
             Due.is("not on a KNOWN DAY", x.fails(2, 2, 1), 0);
@@ -438,6 +454,10 @@ public final class BoundsSignsTest {
             // 4 KNOWN DAYS: 1 times 4 is 2 times 2
             Due.is("just as often", z.beast(0, 0, 1), 0);
             Due.is("without DAYS", days("", "1").beast(0, 0, 1), 0);
+            y.mark(0, 501);
+            Due.is("a MARK one above", y.beast(0, 0, 1), 1);
+            y.mark(0, 500);
+            Due.is("a MARK just there", y.beast(0, 0, 1), 2);
             HallGlass w = new HallGlass();
             w.glass(0, 0, 0);
             for (int i = 1; i <= 8; i++) {

@@ -98,6 +98,14 @@ public final class BoundsTellingsTest {
             }
             Due.is("each of them", x, x.elsewhere(0, 1, 1), 1, 1, 1, 1, 1, 0, 4);
             Due.is("none together", x, x.elsewhere(1, 1, 1), 0, 0, 1, 2, 1, 2, 4);
+            Due.omen(x, 0, "p=498|f=2");
+            x.day(0, 498, 0);
+            x.day(0, 500, 0);
+            x.valley(6, 1);
+            Due.is("by a GLASS, on a DAY just told", x, x.elsewhere(4, 1, 1), 1, 1, 0, 2, 2, 1, 5);
+            x.glass(100, 0, 0);
+            Due.omen(x, 1, "p=398");
+            Due.is("by a GLASS just told", x, x.elsewhere(5, 1, 1), 1, 1, 0, 2, 2, 1, 5);
         });
         Words.test(43, "then as says() 1, 2, 0 or -2, and how many such DAYS.", () -> {
             HallGlass x = days("00000", "d<3", "d=1", "1", "0", "d=0", "d=4");

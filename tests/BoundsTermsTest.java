@@ -245,6 +245,8 @@ public final class BoundsTermsTest {
     private static void hands() {
         test("HAND: on DAY 0 TRUE; later, if TRUE is farther than STICK from where the hand stood", () -> {
             checkHands("one DAY", 40, false, new int[] {700}, 700);
+            checkHands("one DAY of little AIR", 40, false, new int[] {7, 47}, 7, 7);
+            checkHands("one DAY of little AIR, TAPPED", 40, true, new int[] {40, 0}, 40, 40);
             checkHands("just STICK above", 7, false, new int[] {500, 507}, 500, 500);
             checkHands("one more above", 7, false, new int[] {500, 508}, 500, 508);
             checkHands("just STICK below", 7, false, new int[] {500, 493}, 500, 500);
@@ -426,6 +428,8 @@ public final class BoundsTermsTest {
             checkWrong("1+2345", 5);
             checkWrong("(123)4", 5);
             checkWrong("d1", 1);
+            checkWrong("1+d1", 3);
+            checkWrong("(1)1", 3);
         });
         test("an EXPRESSION in ( ) (at most 5 in one another),", () -> {
             value("(7)", 7);
@@ -451,6 +455,8 @@ public final class BoundsTermsTest {
             Due.omen(x, 0, "p");
             Due.is("w goes by SHOWN", x.value(0, 1), 0);
             Due.is("p is not TRUE", x.value(1, 1), 500);
+            x.mark(0, 501);
+            Due.is("w with a MARK one above", x.value(0, 1), 0);
             x.mark(0, 500);
             Due.is("w with a MARK just there", x.value(0, 1), 1);
             checkWrong("W", 0);
@@ -726,6 +732,9 @@ public final class BoundsTermsTest {
             Due.is("omen of a wrong text", x.omen(0), -4);
             Due.is("THE TEXT behind it", x.count(7), 0);
             Due.is("no SIGN more", x.count(2), 3);
+            HallGlass z = Twin.rich();
+            Due.is("omen of no such GLASS", z.omen(3), -100);
+            Due.is("THE TEXT behind it, too", z.count(7), 0);
             HallGlass y = Twin.rich();
             y.end(0);
             x.end(0);
