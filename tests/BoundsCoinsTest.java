@@ -252,8 +252,12 @@ public final class BoundsCoinsTest {
             // learnt: none STANDS on 0: ACT; the first on 1: not; BLIND ACTS. On 2: ACT, on 3 the second alone: unseen, ACT
             Due.is("a set that is new", x, x.truly(0, 3, 1, 1), 0, 2, 2);
             Due.is("again: nothing is left of what was learnt", x, x.truly(0, 3, 1, 1), 0, 2, 2);
-            Due.is("nor for saved()", x, x.saved(0, 3, 1, 1), 1, 3, 3);
-            Due.is("nor behind saved()", x, x.truly(0, 3, 1, 1), 0, 2, 2);
+            HallGlass y = days("0110100100", 3, 7, 1, "d<3", "d=1|d=5|d=6");
+            // learnt on 0 .. 3: it comes behind 0, 1, 3; tried on 4 .. 8: behind 6 alone
+            for (int i = 0; i < 3; i++) {
+                Due.is("nothing is left of what was learnt", y, y.truly(0, 3, 1, 1), 0, 16, 16);
+                Due.is("nothing is left for saved()", y, y.saved(0, 3, 1, 1), 3, 25, 4);
+            }
             x = days("01011", 1, 3, 0, "d=1|d=3", "d=3");
             Due.is("of one that is known and a new one", x, x.truly(0, 3, 1, 1), 0, 2, 2);
             Due.is("of the known one alone", x, x.truly(0, 1, 1, 1), -2, 2, 4);

@@ -341,7 +341,7 @@ public final class BoundsGlassesTest {
         Words.test(15, "NONE: others.", () -> {
             Object[] right = Twin.args(0, 1, 2);
             for (int place = 0; place < 3; place++) {
-                Twin.bounds(-1, "whose", right, place, 0, 2);
+                Twin.beyond(-1, "whose", right, place, 0, 2);
             }
             int[][] same = {{0, 0, 1}, {0, 1, 0}, {1, 0, 0}, {2, 2, 2}};
             for (int[] a : same) {

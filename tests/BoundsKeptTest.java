@@ -90,7 +90,7 @@ public final class BoundsKeptTest {
             Due.is("nothing under 2", x.again(2), false);
             Due.is("under 1", x.again(1), true);
             Twin.refuses(false, "again", 2);
-            Twin.bounds(false, "again", Twin.args(0), 0, 0, 2);
+            Twin.beyond(false, "again", Twin.args(0), 0, 0, 2);
             // 4 DAYS kept under 0, then 3 there are, then 4
             HallGlass y = new HallGlass();
             y.run(3);

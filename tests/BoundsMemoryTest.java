@@ -241,6 +241,15 @@ public final class BoundsMemoryTest {
             x.day(0, 500, 0);
             Due.omen(x, 0, "!w");
             Due.is("by a GLASS, on a DAY just told", x, x.mow(5, 2), 1, 0, 7);
+            HallGlass y = new HallGlass();
+            y.glass(0, 0, 0);
+            Due.days(y, "0010000", "0000700");
+            Due.omen(y, 0, "k=7");
+            Due.omen(y, 0, "t=1");
+            Due.omen(y, 0, "y=1");
+            Due.is("by the SKY", y, y.mow(0, 2), 1, 0, 4);
+            Due.is("by the WEATHER", y, y.mow(1, 2), 1, 0, 2);
+            Due.is("by the WEATHER of the DAY ahead", y, y.mow(2, 2), 1, 0, 3);
         });
         Words.test(36, "if the h DAYS next (1 .. 6) are all of WEATHER 0, a field is in, and one goes on behind these;", () -> {
             for (int h = 1; h <= 6; h++) {
@@ -383,8 +392,8 @@ public final class BoundsMemoryTest {
             Due.is("then", x.listen(0, 0), 32);
         });
         Words.test(39, "Refused: others.", () -> {
-            Twin.bounds(-1, "listen", Twin.args(1, 5), 0, 0, 2);
-            Twin.bounds(-1, "listen", Twin.args(1, 5), 1, 0, 7);
+            Twin.beyond(-1, "listen", Twin.args(1, 5), 0, 0, 2);
+            Twin.beyond(-1, "listen", Twin.args(1, 5), 1, 0, 7);
             Twin.refusesEach(-1, "listen", Twin.args(1, 5), 1, 2, 3, 6, 7, 10, 2 + Integer.MIN_VALUE, 1 << 30);
             Twin.refuses(Twin::full, -1, "listen", 6, 1);
             Twin.refuses(Twin::full, -1, "listen", 1, 64);

@@ -106,6 +106,15 @@ public final class BoundsTellingsTest {
             x.glass(100, 0, 0);
             Due.omen(x, 1, "p=398");
             Due.is("by a GLASS just told", x, x.elsewhere(5, 1, 1), 1, 1, 0, 2, 2, 1, 5);
+            HallGlass y = new HallGlass();
+            y.glass(0, 0, 0);
+            Due.days(y, "0200", "0070");
+            y.valley(2, 0);
+            y.valley(3, 1);
+            Due.omen(y, 0, "k=7");
+            Due.omen(y, 0, "t=2");
+            Due.is("by the SKY here", y, y.elsewhere(0, 1, 1), 1, 1, 0, 0, 1, 1, 2);
+            Due.is("by the WEATHER here", y, y.elsewhere(1, 1, 1), 0, 0, 1, 1, 0, 2, 2);
         });
         Words.test(43, "then as says() 1, 2, 0 or -2, and how many such DAYS.", () -> {
             HallGlass x = days("00000", "d<3", "d=1", "1", "0", "d=0", "d=4");

@@ -100,6 +100,13 @@ public final class BoundsTermsTest {
                 x.seed(seed);
                 x.run(1);
                 Due.is("WEATHER by R " + seed, x.of(1, 0), due[(int) drawn(next(seed), 6)]);
+                HallGlass y = new HallGlass();
+                for (int to = 0; to < 4; to++) {
+                    y.weight(0, to, 9);
+                }
+                y.seed(-seed);
+                y.run(1);
+                Due.is("WEATHER by R " + -seed + ", all 9", y.of(0, 0), drawn(next(-seed & 0xFFFFFFFFL), 36) / 9);
             }
         });
         test("STEPS -50 .. 50 of each WEATHER (at first 0).", () -> {

@@ -139,8 +139,17 @@ final class Twin {
         }
     }
 
-    /** Beyond the bounds of the argument at a place: just so, and as far as can be. */
+    /** The argument at a place: refused just beyond its bounds and as far as can be, taken just within them. */
     static void bounds(Object due, String name, Object[] right, int place, int least, int most) {
+        beyond(due, name, right, place, least, most);
+        for (int v : new int[] {least, most}) {
+            Object[] a = right.clone();
+            a[place] = v;
+            Due.same(name + Arrays.toString(a) + " is refused", answer(rich(), name, a).equals(due), false);
+        }
+    }
+
+    static void beyond(Object due, String name, Object[] right, int place, int least, int most) {
         refusesEach(due, name, right, place, least - 1, most + 1, Integer.MIN_VALUE, Integer.MAX_VALUE);
     }
 

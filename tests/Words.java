@@ -17,6 +17,7 @@ final class Words {
 
     private static final Map<Integer, String> TEXTS = new TreeMap<>();
     private static final Map<Integer, boolean[]> QUOTED = new TreeMap<>();
+    private static int tests;
 
     private Words() {
     }
@@ -42,6 +43,7 @@ final class Words {
 
     /** A test of words of a promise (or of the TERMS); words told with ".." between them stand apart in it. */
     static void test(int promise, String words, Runnable test) {
+        tests++;
         String where = promise == TERMS ? "Terms" : "promise " + promise;
         Due.under(where + ", '" + words + "': ");
         quote(promise, words);
@@ -66,6 +68,7 @@ final class Words {
 
     /** No word of these promises is left without a test. */
     static void allOf(int first, int last) {
+        System.out.print(tests + " sentences, ");
         for (int promise = first; promise <= last; promise++) {
             for (String left : leftOf(promise)) {
                 Due.is((promise == TERMS ? "Terms" : "promise " + promise) + ": a test of the words '" + left + "'", false, true);
